@@ -18,6 +18,7 @@ public final class JobTest {
         promise12FullOfMessages();
         promise12DoneDelivered();
         promise12ReadyBeyondSixty();
+        promise12EndEmptiesQueues();
         promise13Work();
         promise13Full();
         promise14Crash();
@@ -27,6 +28,7 @@ public final class JobTest {
         promise16Message();
         promise17Task();
         promise17TaskRows();
+        promise17Pushed();
         promise17TaskAfterwards();
         Check.end();
     }
@@ -288,6 +290,28 @@ public final class JobTest {
         Check.due("13: with more than sixty", x.work(3), FULL);
     }
 
+    private static void promise12EndEmptiesQueues() {
+        QueryFleet x = alone();
+        x.start(2, 3);
+        x.pass(0, 2);
+        x.pass(1, 2);
+        Check.deliverAndWork(x);
+        x.pass(0, 0);
+        x.pass(1, 2);
+        x.tick();
+        x.tick();
+        Check.due("15: one more RUN", x.tick(), 1);
+        x.pass(x.message(-1, 0) - 1, 0);
+        for (int i = 0; i < 4; i++) {
+            x.pass(0, 0);
+        }
+        Check.due("12: the job ended", x.ended(0), 3);
+        x.start(2, 3);
+        Check.due("12: the queues are gone", x.crash(0), 0);
+        Check.due("12: the queues are gone", x.work(1), NONE);
+        Check.due("12: only the new RUNs", x.message(-1, 0), 2);
+    }
+
     private static void promise13Work() {
         QueryFleet x = alone();
         Check.due("13: no job", x.work(0), NONE);
@@ -403,6 +427,11 @@ public final class JobTest {
         Check.due("15: a new job, 1 ago", x.tick(), 0);
         Check.due("15: a new job, 2 ago", x.tick(), 0);
         Check.due("15: a new job, 3 ago", x.tick(), 2);
+        x = joined();
+        Check.due("11: the most tasks", x.start(4, 3), 16);
+        x.tick();
+        x.tick();
+        Check.due("15: all eight scans", x.tick(), 8);
     }
 
     private static void promise15TickFull() {
@@ -521,6 +550,37 @@ public final class JobTest {
         x.start(4, 3);
         Check.finish(x);
         dueTaskRows("17: no group, one row in part 0", x, 2, 1, 1, 1, 1, 0, 0, 0);
+    }
+
+    /** Two rows each; the condition is true of one of the two rows of each table that it names. */
+    private static void duePushed(int kind, String condition, int first, int second) {
+        QueryFleet x = new QueryFleet();
+        x.row(0, 1, 1, 0);
+        x.row(0, 2, 2, 0);
+        x.row(1, 1, 1, 0);
+        x.row(1, 2, 2, 0);
+        x.from(kind, 0, 1, 0, 0);
+        Check.where(x, condition);
+        x.group(0);
+        x.start(1, 3);
+        Check.finish(x);
+        dueTaskRows("17: join " + kind + " where " + condition, x, first, second, 1, 1);
+    }
+
+    private static void promise17Pushed() {
+        for (int kind = 1; kind <= 2; kind++) {
+            int ofSecond = kind == 1 ? 1 : 2;
+            duePushed(kind, "c0 2 <", 1, 2);
+            duePushed(kind, "c1 2 <", 1, 2);
+            duePushed(kind, "c1 c0 + 3 <", 1, 2);
+            duePushed(kind, "c2 2 <", 2, ofSecond);
+            duePushed(kind, "c3 2 <", 2, ofSecond);
+            duePushed(kind, "2 c3 c2 * = not c2 2 < and", 2, ofSecond);
+            duePushed(kind, "c0 2 < c2 2 < and", 2, 2);
+            duePushed(kind, "c0 2 < c3 2 < and", 2, 2);
+            duePushed(kind, "c1 2 < c2 2 < and", 2, 2);
+            duePushed(kind, "c3 2 < c1 2 < and", 2, 2);
+        }
     }
 
     private static void promise17TaskAfterwards() {

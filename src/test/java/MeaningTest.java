@@ -9,6 +9,7 @@ public final class MeaningTest {
         truthsAreNotTwoValued();
         joins();
         joinOfATableWithItself();
+        nullIsNoPair();
         outerJoinAndConditions();
         aggregates();
         exactSums();
@@ -170,6 +171,23 @@ public final class MeaningTest {
         Check.dueRows("an empty table with itself", x, "0");
     }
 
+    private static void nullIsNoPair() {
+        for (int kind = 1; kind <= 2; kind++) {
+            QueryFleet x = new QueryFleet();
+            x.row(0, 5, 1, 1);
+            x.row(0, 6, 2, 0);
+            x.row(1, 5, 3, 0);
+            x.row(1, 6, 4, 1);
+            x.row(1, 5, 5, 1);
+            x.from(kind, 0, 1, 0, 0);
+            Check.output(x, 0, "c1");
+            Check.output(x, 0, "c3");
+            x.start(2, 3);
+            Check.finish(x);
+            Check.dueRows("what stands beside NULL doesn't count", x, kind == 1 ? "" : "1,- 2,-");
+        }
+    }
+
     private static void outerJoinAndConditions() {
         QueryFleet x = twoTables();
         x.from(2, 0, 2, 0, 0);
@@ -210,10 +228,16 @@ public final class MeaningTest {
         x.start(2, 3);
         Check.finish(x);
         Check.dueRows("least, greatest", x, "-5,3,25");
+        x.from(0, 0, 0, 0, 0);
+        Check.output(x, 4, "c1 10 +");
+        Check.output(x, 5, "c1 10 -");
+        x.start(2, 3);
+        Check.finish(x);
+        Check.dueRows("least above 0, greatest below 0", x, "5,-7");
         Check.where(x, "c1 null");
         x.start(2, 3);
         Check.finish(x);
-        Check.dueRows("least, greatest of none", x, "-,-,-");
+        Check.dueRows("least, greatest of none", x, "-,-");
         x.from(0, 0, 0, 0, 0);
         Check.where(x, "c1 null");
         x.output(1);
@@ -248,6 +272,22 @@ public final class MeaningTest {
         Check.finish(x);
         // In units of 2 ^ 60 a long goes from -8 to just below 8; 4 + 7 - 8 passes beyond and comes back.
         Check.dueRows("sums", x, "0,1152921504606846976 1,3458764513820540928 2,- 3,- 4,-9223372036854775808");
+        QueryFleet z = new QueryFleet();
+        Check.add(z, 0, 1, 0);
+        Check.add(z, 0, 2, 0);
+        z.from(0, 0, 0, 0, 0);
+        // 2 ^ 62 and 2 ^ 62 - 1 or 2 ^ 62; then the same below 0 with one more.
+        Check.output(z, 3, "1073741824 1073741824 * 4 * c0 2 / -");
+        Check.output(z, 3, "1073741824 1073741824 * 4 * c0 3 / -");
+        Check.output(z, 3, "1073741824 1073741824 * -4 * c0 2 / -");
+        z.start(2, 3);
+        Check.finish(z);
+        Check.dueRows("the ends of sums", z, "9223372036854775807,-,-");
+        z.from(0, 0, 0, 0, 0);
+        Check.output(z, 3, "1073741824 1073741824 * -4 * c0 3 / -");
+        z.start(2, 3);
+        Check.finish(z);
+        Check.dueRows("the least sum", z, "-9223372036854775808");
         QueryFleet y = new QueryFleet();
         for (int i = 0; i < 12; i++) {
             Check.add(y, 0, 0, -8);
@@ -264,6 +304,17 @@ public final class MeaningTest {
         y.start(4, 3);
         Check.finish(y);
         Check.dueRows("72 numbers", y, "-,-,-");
+        QueryFleet w = new QueryFleet();
+        for (int i = 0; i < 12; i++) {
+            Check.add(w, 0, 0, i < 6 ? 7 : -7);
+            Check.add(w, 1, 0, i == 11 ? 1 : 0);
+        }
+        w.from(1, 0, 1, 0, 0);
+        Check.output(w, 3, "c1 1073741824 * 1073741824 * c3 -");
+        w.output(1);
+        w.start(4, 3);
+        Check.finish(w);
+        Check.dueRows("72 times far up, 72 times down again", w, "-12,144");
     }
 
     private static void groups() {

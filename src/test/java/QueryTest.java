@@ -117,6 +117,14 @@ public final class QueryTest {
         Check.due("3: a group would forbid this", x.start(1, 3), 1);
         Check.finish(x);
         Check.dueRows("3: no condition, order, limit", x, "1 2 3");
+        Check.output(x, 0, "0 c0 -");
+        x.order(1, false, -1);
+        x.from(0, 0, 0, 0, 0);
+        Check.output(x, 0, "c0");
+        Check.output(x, 0, "0 c0 -");
+        x.start(1, 3);
+        Check.finish(x);
+        Check.dueRows("3: by column 0 again", x, "1,-1 2,-2 3,-3");
     }
 
     private static void promise4Column() {
@@ -371,6 +379,8 @@ public final class QueryTest {
         dueOrdered(x, "10: column 3 counts as 0", "3,2 2,1 1,3");
         x.order(2, false, 1);
         dueOrdered(x, "10: column 2 counts as 0", "1,3");
+        x.order(2, true, 1);
+        dueOrdered(x, "10: column 2 counts as 0, down", "3,2");
         x.order(2, false, -1);
         Check.output(x, 0, "0 c1 -");
         dueOrdered(x, "10: column 2 is there now", "1,3,-3 3,2,-2 2,1,-1");

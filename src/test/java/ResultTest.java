@@ -86,6 +86,14 @@ public final class ResultTest {
                 }
             }
         }
+        QueryFleet none = withRows(4);
+        none.start(1, 3);
+        Check.finish(none);
+        Check.due("18: passes of 4 with 3", none.ended(2), 2);
+        Check.where(none, "1 2 =");
+        none.start(1, 3);
+        Check.finish(none);
+        Check.due("18: no rows, no pass", none.ended(2), 0);
         // Worked out by hand: 144 rows make 48 runs of 3, then 24, 12, 6, 3, 2, 1.
         Check.due("18: 144 with 3", passes(144, 3), 7);
         // 18 runs of 8, then 3, then 1.
