@@ -33,6 +33,9 @@ public final class QueryFleet {
     private static final int FIRST_TABLE_BITS = 3;
     private static final int SECOND_TABLE_BITS = 12;
 
+    private static final long LEAST_LONG = 1L << 63;
+    private static final long GREATEST_LONG = ~LEAST_LONG;
+
     private static final int CONDITIONS = 6;
     private static final int OUTPUTS = 3;
     private static final int PLAIN = 0;
@@ -53,7 +56,7 @@ public final class QueryFleet {
     private static final int SECOND_SCAN = 1;
     private static final int JOIN = 2;
     private static final int GROUPING = 3;
-    private static final int KINDS = 4;
+    private static final int KINDS = GROUPING + 1;
     private static final int RUN = 0;
     private static final int DONE = 1;
     private static final int QUEUE = 12;
@@ -151,7 +154,13 @@ public final class QueryFleet {
         result.sort(query);
         result.countPasses(memory);
         job.clear(workers);
-        addTasks();
+        for (int t = 0; t < KINDS * workers; t++) {
+            int kind = t / workers;
+            int part = t % workers;
+            if (query.needs(kind)) {
+                job.addTask(kind, part, plan.rowsOf(kind, part, workers));
+            }
+        }
         job.sendReady();
         return job.taskCount;
     }
@@ -263,16 +272,6 @@ public final class QueryFleet {
 
     private boolean hasCell(int i, int c) {
         return hasResult() && isIn(i, result.counting) && isIn(c, result.columns);
-    }
-
-    private void addTasks() {
-        for (int kind = 0; kind < KINDS; kind++) {
-            if (query.needs(kind)) {
-                for (int part = 0; part < job.workers; part++) {
-                    job.addTask(kind, part, plan.rowsOf(kind, part, job.workers));
-                }
-            }
-        }
     }
 
     /** A table; its rows stay once they are there. */
@@ -545,7 +544,7 @@ public final class QueryFleet {
                     values[depth - 1] = 1 - values[depth - 1];
                 } else if (code == IS_NULL && depth >= 1) {
                     set(depth - 1, nulls[depth - 1] ? 1 : 0, false);
-                } else if (code <= OR && depth >= 2) {
+                } else if (depth >= 2) {
                     depth--;
                     combine(code, depth - 1, depth);
                 }
@@ -570,14 +569,16 @@ public final class QueryFleet {
         }
 
         private void combine(int op, int p, int q) {
-            if (op == AND) {
-                decide(p, q, 0);
-            } else if (op == OR) {
-                decide(p, q, 1);
+            if (op == AND || op == OR) {
+                decide(p, q, op == OR ? 1 : 0);
             } else if (nulls[p] || nulls[q]) {
-                set(p, 0, true);
+                nulls[p] = true;
+            } else if (op == EQUAL || op == LESS) {
+                boolean holds = op == EQUAL ? values[p] == values[q] : values[p] < values[q];
+                values[p] = holds ? 1 : 0;
             } else {
-                calculate(op, p, values[p], values[q]);
+                nulls[p] = !isLong(op, values[p], values[q]);
+                values[p] = nulls[p] ? 0 : calculate(op, values[p], values[q]);
             }
         }
 
@@ -593,44 +594,36 @@ public final class QueryFleet {
             }
         }
 
-        private void calculate(int op, int at, long p, long q) {
+        /** Whether the operation of two longs is one, too. */
+        private static boolean isLong(int op, long p, long q) {
             switch (op) {
                 case ADD:
-                    set(at, p + q, ((p ^ (p + q)) & (q ^ (p + q))) < 0);
-                    break;
+                    return ((p ^ (p + q)) & (q ^ (p + q))) >= 0;
                 case SUBTRACT:
-                    set(at, p - q, ((p ^ q) & (p ^ (p - q))) < 0);
-                    break;
+                    return ((p ^ q) & (p ^ (p - q))) >= 0;
                 case MULTIPLY:
-                    set(at, p * q, !hasProduct(p, q));
-                    break;
-                case DIVIDE:
-                    if (q == 0 || (q == -1 && p == Long.MIN_VALUE)) {
-                        set(at, 0, true);
-                    } else {
-                        set(at, p / q, false);
+                    if (q == 0 || q == -1) {
+                        return q == 0 || p != LEAST_LONG;
                     }
-                    break;
-                case EQUAL:
-                    set(at, p == q ? 1 : 0, false);
-                    break;
-                case LESS:
-                    set(at, p < q ? 1 : 0, false);
-                    break;
+                    return p * q / q == p;
+                case DIVIDE:
+                    return q != 0 && (q != -1 || p != LEAST_LONG);
                 default:
-                    set(at, 0, true);
-                    break;
+                    return false;
             }
         }
 
-        private static boolean hasProduct(long p, long q) {
-            if (q == 0) {
-                return true;
+        private static long calculate(int op, long p, long q) {
+            switch (op) {
+                case ADD:
+                    return p + q;
+                case SUBTRACT:
+                    return p - q;
+                case MULTIPLY:
+                    return p * q;
+                default:
+                    return q == 0 ? 0 : p / q;
             }
-            if (q == -1) {
-                return p != Long.MIN_VALUE;
-            }
-            return p * q / q == p;
         }
     }
 
@@ -649,8 +642,8 @@ public final class QueryFleet {
             numbers = 0;
             high = 0;
             low = 0;
-            least = Long.MAX_VALUE;
-            greatest = Long.MIN_VALUE;
+            least = GREATEST_LONG;
+            greatest = LEAST_LONG;
         }
 
         void add(long value, boolean none) {
@@ -691,7 +684,7 @@ public final class QueryFleet {
 
         private boolean hasSum() {
             long carried = high + (low >> 32);
-            return carried >= Integer.MIN_VALUE && carried <= Integer.MAX_VALUE;
+            return carried == (int) carried;
         }
     }
 
@@ -842,8 +835,10 @@ public final class QueryFleet {
                     return scannedRows(taskKind, query.second, part, workers);
                 case JOIN:
                     return joinedRows(part, workers);
-                default:
+                case GROUPING:
                     return groupsOfPart(part, workers);
+                default:
+                    return 0;
             }
         }
 
