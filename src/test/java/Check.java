@@ -28,34 +28,58 @@ final class Check {
 
     /** Delivers and works in order until the job ends. */
     static void finish(QueryFleet x) {
-        for (int i = 0; i < 200 && x.message(-1, 0) != QueryFleet.NONE; i++) {
-            x.pass(0, 0);
-            for (int w = 0; w < 4; w++) {
-                x.work(w);
-            }
-        }
+        driveOn(x);
         due("job is on after finish", x.message(-1, 0), QueryFleet.NONE);
+    }
+
+    /** The same, but a job that can't be ended so is left; lets time pass when nothing waits. */
+    static void driveOn(QueryFleet x) {
+        for (int i = 0; i < 12; i++) {
+            int waiting = x.message(-1, 0);
+            if (waiting < 0) {
+                return;
+            }
+            if (waiting == 0) {
+                x.tick();
+            }
+            deliver(x, waiting);
+            work(x);
+        }
     }
 
     /** Delivers all that waits now, then lets the workers do all that is in their queues. */
     static void deliverAndWork(QueryFleet x) {
-        int waiting = x.message(-1, 0);
-        for (int i = 0; i < waiting; i++) {
-            x.pass(0, 0);
+        deliver(x, x.message(-1, 0));
+        work(x);
+    }
+
+    private static void deliver(QueryFleet x, int messages) {
+        for (int i = 0; i < messages && x.pass(0, 0) >= 0; i++) {
+            continue;
         }
+    }
+
+    private static void work(QueryFleet x) {
         for (int w = 0; w < 4; w++) {
-            for (int i = 0; i < 12; i++) {
-                x.work(w);
+            for (int i = 0; i < 12 && x.work(w) >= 0; i++) {
+                continue;
             }
         }
     }
 
     /** The result rows as text, NULL as "-", columns parted by "," and rows by " ". */
     static String rows(QueryFleet x) {
+        return rows(x, Integer.MAX_VALUE);
+    }
+
+    /** The first rows, so many at most: an object is good for 512 calls alone. */
+    static String rows(QueryFleet x, int most) {
         StringBuilder text = new StringBuilder();
-        for (int i = 0; i < x.ended(0); i++) {
+        int rows = Math.min(x.ended(0), most);
+        int columns = x.ended(1);
+        for (int i = 0; i < rows; i++) {
             text.append(i == 0 ? "" : " ");
-            for (int c = 0; c < x.ended(1); c++) {
+            for (int c = 0; c < columns; c++) {
                 text.append(c == 0 ? "" : ",");
                 text.append(x.missing(i, c) ? "-" : Long.toString(x.cell(i, c)));
             }
