@@ -207,6 +207,9 @@ public final class QueryBoundaryTest {
         }
         Bound.rows("3: x of the first, y of the second", "row 0 1 2 0; row 1 3 1 0; from 1 0 1 0 1; output 1; start 1 3", "1");
         Bound.rows("3: y of the first, x of the second", "row 0 1 2 0; row 1 3 1 0; from 1 0 1 1 0; output 1; start 1 3", "0");
+        Bound.rows("3: y of the first, x of the second", "row 0 1 3 0; row 1 3 2 0; from 1 0 1 1 0; output 1; start 1 3", "1");
+        Bound.rows("3: y of both", "row 0 1 3 0; row 1 2 3 0; from 1 0 1 1 1; output 1; start 1 3", "1");
+        Bound.rows("3: x of both", "row 0 1 3 0; row 1 1 2 0; from 1 0 1 0 0; output 1; start 1 3", "1");
     }
 
     /** Promise 4: false, changing nothing: c isn't 0 .. 3 (0 .. 1 over one table). */

@@ -128,6 +128,11 @@ public final class TermsBoundaryTest {
         Bound.rows("a row in one pair", "row 0 5 1 0; row 1 5 3 0" + from, "1,5,3");
         Bound.rows("a row in two pairs", "row 0 5 1 0; row 1 5 3 0; row 1 5 4 0" + from, "1,5,3 1,5,4");
         Bound.rows("rows of the second in no pair don't come", "row 0 5 1 0; row 1 6 3 0; row 1 7 3 0" + from, "1,-,-");
+        String crossed = "row 0 1 2 0; row 1 2 1 0; from 2 0 1 ";
+        Bound.rows("x and x", crossed + "0 0; put c3; output 0; start 2 3", "-");
+        Bound.rows("x and y", crossed + "0 1; put c2; output 0; start 2 3", "2");
+        Bound.rows("y and x", crossed + "1 0; put c3; output 0; start 2 3", "1");
+        Bound.rows("y and y", crossed + "1 1; put c3; output 0; start 2 3", "-");
         String all = "; from 2 0 1 0 0; output 1; put c2; output 2; start 4 3";
         Bound.rows("12 rows in no pair", "12* row 0 5 1 0; 12* row 1 6 1 0" + all, "12,0");
     }
@@ -362,6 +367,10 @@ public final class TermsBoundaryTest {
             Bound.rows("how many, sum", rows[i] + ALONE + "output 1; put c1; output 2; put c1; output 3; start 2 3", counts[i]);
             Bound.rows("least, greatest", rows[i] + ALONE + "put c1; output 4; put c1; output 5; start 2 3", ends[i]);
         }
+        String groups = "row 0 1 5 0; row 0 1 6 0; row 0 2 0 2; row 0 3 7 0; " + ALONE + "group 0; ";
+        Bound.rows("a group without numbers between others", groups + "put c1; output 2; put c1; output 3; put c1; output 4; start 2 3",
+            "1,2,11,5 2,0,-,- 3,1,7,7");
+        Bound.rows("the greatest", groups + "put c1; output 5; output 1; start 2 3", "1,6,2 2,-,1 3,7,1");
         String row = "row 0 0 0 0; " + ALONE;
         Bound.rows("least, greatest of the ends", row + "put " + LEAST + "; output 5; put " + GREATEST + "; output 4; start 1 3",
             LEAST_LONG + "," + GREATEST_LONG);
@@ -472,6 +481,7 @@ public final class TermsBoundaryTest {
         Bound.rows("as many", rows + "order 0 up 3; start 1 3", "1 2 3");
         Bound.rows("one more", rows + "order 0 up 4; start 1 3", "1 2 3");
         Bound.rows("the first ones down", rows + "order 0 down 2; start 1 3", "3 2");
+        Bound.rows("behind a job with another order", rows + "start 1 3; finish; put c0 3 =; where; order 0 down -1; start 1 3", "3");
     }
 
     /** W scans of the first table; for a join W scans of the second one and W joins; with aggregates W groupings. */
@@ -500,6 +510,11 @@ public final class TermsBoundaryTest {
                 want[0] = 1;
                 want[w + (int) (((long) value % w + w) % w)] = 1;
                 Bound.taskRows("part of a group", "row 0 " + value + " 0 0; " + ALONE + "group 0; start " + w + " 3", want);
+                int[] joins = new int[3 * w];
+                joins[0] = 1;
+                joins[w] = 1;
+                joins[2 * w + (int) (((long) value % w + w) % w)] = 1;
+                Bound.taskRows("part of a join column", "row 0 " + value + " 0 0; from 1 0 0 0 0; put c0; output 0; start " + w + " 3", joins);
             }
             int[] ofNull = new int[2 * w];
             ofNull[0] = 1;
@@ -520,6 +535,10 @@ public final class TermsBoundaryTest {
             Bound.taskRows("a column of each", from + "put c0 c2 + 4 =; where; start 1 3", 2, 2, 1);
             Bound.taskRows("UNKNOWN does not pass", from + "put c0 0 / 1 =; where; start 1 3", 0, 2, 0);
         }
+        String earlier = "from 1 0 1 0 0; put c2 c3 =; where; put c2; output 0; put c3; column 2; ";
+        Bound.taskRows("columns of an earlier query don't count", rows + earlier
+            + "from 1 0 1 0 0; put c0 2 =; where; put c0; output 0; start 1 3", 1, 2, 1);
+        Bound.taskRows("nor those of an output", rows + "from 1 0 1 0 0; put c2; output 0; put c0 2 =; where; start 1 3", 1, 2, 1);
         Bound.taskRows("over one table", rows + ALONE + "put c0 2 =; where; put c0; output 0; start 1 3", 1);
     }
 
@@ -551,6 +570,8 @@ public final class TermsBoundaryTest {
     private static void rowsOfGroupings() {
         Bound.taskRows("no group column, no row", ALONE + "output 1; start 3 3", 0, 0, 0, 1, 0, 0);
         Bound.taskRows("no group column, rows", "5* row 0 1 1 0; " + ALONE + "output 1; start 3 3", 2, 2, 1, 1, 0, 0);
+        Bound.taskRows("no group column, behind a job with one", "row 0 1 1 0; " + ALONE + "group 0; output 1; start 3 3; finish; "
+            + ALONE + "output 1; start 3 3", 1, 0, 0, 1, 0, 0);
         Bound.taskRows("a group column, no row", ALONE + "group 0; output 1; start 3 3", 0, 0, 0, 0, 0, 0);
         Bound.taskRows("rows that don't count are there", "row 0 1 1 0; row 0 2 1 0; " + ALONE
             + "group 0; output 1; order 0 up 0; start 3 3", 1, 1, 0, 0, 1, 1);
@@ -565,6 +586,11 @@ public final class TermsBoundaryTest {
         for (int t = 4; t < 8; t++) {
             Bound.due("the others aren't", state, "task " + t + " 2", 0);
         }
+        for (int last = 0; last < 4; last++) {
+            String others = state + "serve; " + last + "* pass 0 0; " + (3 - last) + "* pass 1 0";
+            Bound.due("all but scan " + last + " are done", others, "task 4 2", 0);
+            Bound.due("all are done", others + "; pass 0 0", "task 4 2", 1);
+        }
         String three = state + "serve; 3* pass 0 0";
         Bound.due("one scan isn't done", three, "message -1 0", 1);
         Bound.due("so no join was sent", three, "task 4 2", 0);
@@ -578,6 +604,7 @@ public final class TermsBoundaryTest {
     private static void readyGroupings() {
         String state = "row 0 1 1 0; row 1 1 1 0; from 1 0 1 0 0; output 1; start 2 3; serve; 4* pass 0 0; serve; ";
         Bound.due("one join isn't done", state + "pass 0 0", "task 6 2", 0);
+        Bound.due("the other join isn't done", state + "pass 1 0", "task 6 2", 0);
         Bound.due("all are done", state + "2* pass 0 0", "task 6 2", 1);
         Bound.due("both groupings wait", state + "2* pass 0 0", "message -1 0", 2);
         Bound.due("the first one", state + "2* pass 0 0", "message 0 1", 6);
