@@ -92,6 +92,7 @@ public final class ResultBoundaryTest {
             duePasses(1, memory, memory, 1);
             duePasses(1, memory + 1, memory, 2);
         }
+        Bound.refused("18: without rows, behind a job with rows", ENDED + "put 1 2 =; where; start 1 3; finish", "ended 2", 0);
         // M * (M - 1) rows still are made one run by the second pass; one more row needs a third.
         duePasses(2, 3, 3, 2);
         duePasses(1, 7, 3, 3);

@@ -208,6 +208,11 @@ public final class TermsBoundaryTest {
         dueValue(LEAST + " " + LEAST + " -", "0");
         dueValue(GREATEST + " " + LEAST + " -", "-");
         dueValue(LEAST + " " + GREATEST + " -", "-");
+        // Every second bit is set: then all bits of the sum differ from those of both numbers.
+        String bits = "1431655765 2147483647 2147483647 + 3 + *";
+        dueValue(bits, "6148914691236517205");
+        dueValue(bits + " " + bits + " +", "-");
+        dueValue("-1 " + bits + " - " + bits + " -", "-");
     }
 
     /** 2 p * q: a number, NULL if it is no long. */
@@ -469,6 +474,9 @@ public final class TermsBoundaryTest {
         Bound.rows("0 down, then 1 up", rows + "order 0 down -1; start 1 3", "2,1,5 1,-,5 1,0,5 1,1,5 -,1,5");
         Bound.rows("1 down, then 0 up", rows + "order 1 down -1; start 1 3", "-,1,5 1,1,5 2,1,5 1,0,5 1,-,5");
         Bound.rows("2 down, all alike", rows + "order 2 down -1; start 1 3", "-,1,5 1,-,5 1,0,5 1,1,5 2,1,5");
+        String nulls = "row 0 0 2 1; row 0 0 3 1; row 0 0 1 1; row 0 0 0 3; " + ALONE + "put c0; output 0; put c1; output 0; ";
+        Bound.rows("NULL and NULL are alike", nulls + "start 1 3", "-,- -,1 -,2 -,3");
+        Bound.rows("NULL and NULL are alike, down", nulls + "order 0 down -1; start 1 3", "-,- -,1 -,2 -,3");
         Bound.rows("all of it alike", "12* row 0 3 3 0; " + ALONE + "put c0; output 0; start 1 3", "3 3 3 3 3 3 3 3 3 3 3 3");
     }
 
