@@ -39,6 +39,7 @@ public final class FaceTest {
         methods();
         constructorsAndFields();
         classesInside();
+        sizes();
         Check.end();
     }
 
@@ -90,5 +91,24 @@ public final class FaceTest {
             }
         }
         Check.due("some twelve classes", classes <= 12, true);
+    }
+
+    // Rule 11 of LANGUAGE.md, as far as it can be seen from outside.
+    private static void sizes() {
+        sizesOf(QueryFleet.class);
+        for (Class<?> inside : QueryFleet.class.getDeclaredClasses()) {
+            sizesOf(inside);
+        }
+    }
+
+    private static void sizesOf(Class<?> some) {
+        for (Method m : some.getDeclaredMethods()) {
+            Check.due("seven parameters at most: " + m, m.getParameterCount() <= 7, true);
+        }
+        int fields = 0;
+        for (Field f : some.getDeclaredFields()) {
+            fields += Modifier.isStatic(f.getModifiers()) ? 0 : 1;
+        }
+        Check.due("some twenty fields: " + some, fields <= 20, true);
     }
 }
